@@ -255,13 +255,13 @@ public final class PluckBroker {
             return BAD;
         }
         ahead.copy(now);
-        int place = 0;
-        for (long unit = limit / 1000; unit > 0; unit /= 1000) {
+        long unit = limit / 1000;
+        for (int place = 0; place < n && unit > 0; place++) {
             int figures = (int) (row / unit % 1000);
             if (!ahead.goesThrough(figures / 100, figures / 10 % 10, figures % 10)) {
                 return place;
             }
-            place++;
+            unit /= 1000;
         }
         return NONE;
     }

@@ -200,7 +200,8 @@ public final class ChancesTest {
 
     /** The years of one object are lived through on another one, call by call. */
     private static void years() {
-        String[] shops = {"B3P2P0Q050Q031Q142Q123D014D137D209D322D260", "B9P0P0P0Q051Q062Q173Q140Q292D089", "B9P9", "B5"};
+        String[] shops = {"B3P2P0Q050Q031Q142Q123D014D137D209D322D260",
+            "B9P0P0P0Q051Q062Q173Q140Q292D089", "B9P9", "B5"};
         for (String shop : shops) {
             for (long seed = -40; seed < 40; seed++) {
                 PluckBroker broker = Check.shop(shop);

@@ -132,6 +132,11 @@ public final class DaysToComeTest {
         broker = Check.shop("B9P0Q090Q030Q030Q030D000");
         raise(broker, 0, 9, 14, 1);
         raise(broker, 0, 10, 3, 0);
+        broker = Check.shop("B9P0Q030Q030Q030Q090D300");
+        raise(broker, 0, 9, 7, 1);
+        // fewest qualities go ahead of the least bits
+        broker = Check.shop("B9P0Q020Q030Q050");
+        raise(broker, 0, 5, 4, 0);
         // a deed that is done already counts, one that failed does not
         broker = Check.shop("B9P0Q020Q030D002D015D110");
         broker.day();

@@ -386,7 +386,8 @@ final class Model {
             boolean can = true;
             for (int i = 0; i < 5; i++) {
                 if ((set & 1 << i) != 0) {
-                    can = can && i < trial.qualities.size() && trial.qualities.get(i).owner == person && trial.pledge(i);
+                    boolean own = i < trial.qualities.size() && trial.qualities.get(i).owner == person;
+                    can = can && own && trial.pledge(i);
                 }
             }
             if (can && trial.purses.get(person) >= v) {
@@ -607,7 +608,8 @@ final class Model {
         Shop trial = shop.twin();
         int together = 0;
         for (int i = 0; i < m; i++) {
-            seed = seed.multiply(new BigInteger("6364136223846793005")).add(new BigInteger("1442695040888963407")).mod(wrap);
+            seed = seed.multiply(new BigInteger("6364136223846793005"))
+                .add(new BigInteger("1442695040888963407")).mod(wrap);
             int thing = seed.shiftRight(33).mod(BigInteger.valueOf(24)).intValue();
             if (thing < 5) {
                 trial.pledge(thing);

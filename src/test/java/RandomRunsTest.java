@@ -81,7 +81,8 @@ public final class RandomRunsTest {
 
     private void text() {
         String told = shopText(upTo(4), upTo(6), upTo(6));
-        StringBuilder changed = new StringBuilder(told.substring(0, upTo(3) == 0 ? upTo(told.length()) : told.length()));
+        int cut = upTo(3) == 0 ? upTo(told.length()) : told.length();
+        StringBuilder changed = new StringBuilder(told.substring(0, cut));
         if (changed.length() > 0 && upTo(2) > 0) {
             changed.setCharAt(upTo(changed.length() - 1), "BPQD0123459/: q\u00ff".charAt(upTo(15)));
         }

@@ -40,7 +40,8 @@ public final class RulesTest {
 
     private static void face() {
         Class<?> broker = PluckBroker.class;
-        rule(Modifier.isPublic(broker.getModifiers()) && Modifier.isFinal(broker.getModifiers()), "1: public and final");
+        int modifiers = broker.getModifiers();
+        rule(Modifier.isPublic(modifiers) && Modifier.isFinal(modifiers), "1: public and final");
         TreeSet<String> want = new TreeSet<>(List.of(FACE));
         TreeSet<String> got = new TreeSet<>();
         TreeSet<String> names = new TreeSet<>();
@@ -55,7 +56,8 @@ public final class RulesTest {
             got.add(told.toString());
             names.add(method.getName());
             rule(Modifier.isPublic(method.getModifiers()) && !Modifier.isStatic(method.getModifiers()), "1: " + told);
-            rule(method.getReturnType() == (method.getName().equals("seed") ? long.class : int.class), "answer of " + told);
+            Class<?> answer = method.getName().equals("seed") ? long.class : int.class;
+            rule(method.getReturnType() == answer, "answer of " + told);
         }
         rule(want.equals(got), "1: the face is " + got);
         for (Method method : broker.getDeclaredMethods()) {
@@ -70,7 +72,8 @@ public final class RulesTest {
             rule(!Modifier.isStatic(is) || Modifier.isFinal(is), "5: " + field.getName());
             if (!Modifier.isPrivate(is)) {
                 constants.add(field.getName());
-                rule(Modifier.isPublic(is) && Modifier.isStatic(is) && field.getType() == int.class, "1: " + field.getName());
+                boolean constant = Modifier.isPublic(is) && Modifier.isStatic(is) && field.getType() == int.class;
+                rule(constant, "1: " + field.getName());
             }
         }
         rule(constants.equals(new TreeSet<>(List.of("UNKNOWN", "BAD", "LATE", "FULL", "NONE"))), "1: " + constants);
@@ -81,7 +84,8 @@ public final class RulesTest {
         rule(inner.length <= 12, "11: classes");
         for (Class<?> one : inner) {
             rule(Modifier.isStatic(one.getModifiers()), "2: " + one.getName());
-            rule(!Modifier.isPublic(one.getModifiers()) && !Modifier.isProtected(one.getModifiers()), "1: " + one.getName());
+            boolean open = Modifier.isPublic(one.getModifiers()) || Modifier.isProtected(one.getModifiers());
+            rule(!open, "1: " + one.getName());
             int fields = 0;
             for (Field field : one.getDeclaredFields()) {
                 boolean constant = Modifier.isStatic(field.getModifiers());
@@ -113,7 +117,7 @@ public final class RulesTest {
     }
 
     private static void methodsAreShort(String source) {
-        Pattern head = Pattern.compile("( {4}| {8})(?!if|for|while|switch|private static final class)[a-zA-Z].*\\) \\{");
+        Pattern head = Pattern.compile("( {4}| {8})(?!if|for|while|switch)[a-zA-Z].*\\) \\{");
         String[] lines = source.split("\n");
         for (int i = 0; i < lines.length; i++) {
             Matcher start = head.matcher(lines[i]);
