@@ -208,8 +208,8 @@ public final class ChancesTest {
                 PluckBroker lived = Check.shop(shop);
                 broker.seed(seed * 0x123456789ABCDL);
                 long x = seed * 0x123456789ABCDL;
+                long[] ahead = Check.look(broker);
                 for (int m = 1; m <= 30; m += 7) {
-                    long[] ahead = Check.look(broker);
                     long together = 0;
                     lived.keep(0);
                     for (int i = 0; i < m; i++) {
@@ -220,8 +220,8 @@ public final class ChancesTest {
                     }
                     lived.again(0);
                     CHECK.due("years " + m + " of " + seed, broker.years(m), together);
-                    CHECK.row("years change nothing", Check.look(broker), ahead);
                 }
+                CHECK.row("years change nothing", Check.look(broker), ahead);
                 CHECK.due("seed behind years of " + seed, broker.seed(0), x);
             }
         }

@@ -264,7 +264,9 @@ public final class DaysToComeTest {
     private static void judgeFigures() {
         PluckBroker broker = Check.shop("B3P2P0Q050Q130D009D105");
         for (int figures = 0; figures < 1000; figures++) {
-            judge(broker, 1, figures, isSoAtFirst(figures) ? -9 : 0);
+            // an object is used for 512 calls at most
+            PluckBroker one = Check.shop("B3P2P0Q050Q130D009D105");
+            judge(one, 1, figures, isSoAtFirst(figures) ? -9 : 0);
         }
         judge(broker, 3, 400L, -9);
         judge(broker, 2, 400000L, 0);

@@ -2,7 +2,7 @@ import java.util.Random;
 
 /** Runs of random calls, each answer against the model's; the seeds are fixed, so that all runs are the same again. */
 public final class RandomRunsTest {
-    private static final int RUNS = 1500, CALLS = 512;
+    private static final int RUNS = 1500;
     private static final Check CHECK = new Check();
 
     private final Random random;
@@ -26,7 +26,7 @@ public final class RandomRunsTest {
     private void live() {
         writeAll(run % 3 == 0 ? shopText(3, 5, 5) : shopText(upTo(3), upTo(5), upTo(5)));
         due("shop()", broker.shop(), model.shop());
-        while (calls < CALLS) {
+        while (calls < Check.CALLS_MOST) {
             int kind = upTo(99);
             if (kind < 50) {
                 act();
@@ -42,9 +42,12 @@ public final class RandomRunsTest {
         }
     }
 
+    /** Behind the calls for which an object is used its answers are free. */
     private void due(String call, long got, long want) {
         calls++;
-        CHECK.due("run " + run + ", call " + calls + ": " + call, got, want);
+        if (calls <= Check.CALLS_MOST) {
+            CHECK.due("run " + run + ", call " + calls + ": " + call, got, want);
+        }
     }
 
     private int upTo(int most) {
