@@ -20,6 +20,7 @@ public final class BoundsOfChancesTest {
         restsOfTheDearest();
         salesRefused();
         tenths();
+        keepsakesAreSold();
         atLeastSoMany();
         salesOfNothing();
         salesOfAll();
@@ -335,6 +336,24 @@ public final class BoundsOfChancesTest {
                 sales(broker, 2, x, 0, 1);
             }
         }
+    }
+
+    /** "each QUALITY that is PLEDGED", of whatever KIND: a KEEPSAKE, too, that no number of DAYS sells. */
+    private static void keepsakesAreSold() {
+        PluckBroker broker = Check.shop("B9P0Q013Q020D090D190", "p0 p1 d9");
+        due("26: SOLD by nine DAYS", broker.about(7), 2);
+        due("26: PLEDGED for nine DAYS", broker.about(6), 1);
+        for (int x = 0; x <= 10; x++) {
+            due("26: by tenths of " + x, 10 * broker.sales(1, x, true), (10 - x) * broker.sales(1, x, false));
+            sales(broker, 2, x, 0, 1);
+        }
+        sales(broker, 1, 3, 7, 10);
+        due("26: nothing is SOLD by asking", broker.quality(0, 3), 1);
+        // two KEEPSAKES, each by itself
+        broker = Check.shop("B9P0Q013Q013D000D100", "p0 p1");
+        sales(broker, 2, 3, 49, 100);
+        sales(broker, 1, 3, 91, 100);
+        sales(broker, 1, 10, 0, 1);
     }
 
     /** "m or more DEEDS": as many as there are, one more; up to five. */

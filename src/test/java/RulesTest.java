@@ -4,7 +4,6 @@ import java.lang.reflect.Method;
 import java.lang.reflect.Modifier;
 import java.nio.file.Files;
 import java.nio.file.Path;
-import java.util.ArrayList;
 import java.util.List;
 import java.util.TreeSet;
 import java.util.regex.Matcher;
@@ -18,7 +17,10 @@ public final class RulesTest {
         "ask int int", "unask", "tickets int", "rests int int int", "sales int int boolean", "seed long", "years int",
         "keep int", "again int"};
     private static final String[] FORBIDDEN = {"throw", "throws", "try", "catch", "finally", "synchronized", "assert",
-        "import", "package", "var", "Object", "Arrays", "volatile", "native", "protected"};
+        "package", "var", "Object", "volatile", "native", "protected"};
+    /** What stands under rule 4, so far as it is called by a class's name. */
+    private static final Pattern LIBRARY = Pattern.compile("Arrays\\.(copyOf|copyOfRange|fill)|System\\.arraycopy"
+        + "|List\\.of|(Math|Long|Integer)\\.(?!\\w*Exact\\b|random\\b|getInteger\\b|getLong\\b)\\w+");
     private static int wrong;
 
     public static void main(String[] args) throws Exception {
@@ -106,13 +108,16 @@ public final class RulesTest {
         }
         rule(!code.contains("->") && !code.contains("::"), "2: no lambda, no method reference");
         rule(source.chars().allMatch(c -> c < 128), "4: signs are below 128");
-        Matcher library = Pattern.compile("\\b(System|Math|Long|String|Integer)\\.(\\w+)").matcher(code);
-        List<String> used = new ArrayList<>();
-        while (library.find()) {
-            used.add(library.group());
+        Matcher used = Pattern.compile("\\b(System|Math|StrictMath|Long|String|Integer|Arrays|List|Character|Thread"
+            + "|Runtime)\\.\\w+").matcher(code);
+        while (used.find()) {
+            rule(LIBRARY.matcher(used.group()).matches(), "4: " + used.group());
         }
-        used.removeIf(call -> call.equals("Integer.bitCount"));
-        rule(used.isEmpty(), "4: " + used);
+        Matcher imported = Pattern.compile("(?m)^import\\s+(.*)$").matcher(code);
+        while (imported.find()) {
+            boolean named = imported.group(1).matches("java\\.util\\.(ArrayList|List|Arrays|Iterator);");
+            rule(named, "4: " + imported.group());
+        }
         methodsAreShort(source);
     }
 
