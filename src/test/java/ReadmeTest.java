@@ -6,7 +6,7 @@ import java.util.List;
 import java.util.regex.Matcher;
 import java.util.regex.Pattern;
 
-/** What README.md tells of the class is so: its example is run line by line, and it names every call, and no test that is not there. */
+/** What README.md tells is so: its example is run line by line; it names every call, and no test that is not there. */
 public final class ReadmeTest {
     private static final Check CHECK = new Check();
     /** What the interface says ahead of its calls, and the calls behind it, in the document's order. */
